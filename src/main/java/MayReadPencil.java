@@ -1,6 +1,7 @@
 public final class MayReadPencil {
     private static final int MOST_PEOPLE = 6;
     private static final int MOST_LETTERS = 24;
+    private static final int UNDER_LAMP = 3;
     private static final int SECRETS = 40;
     private static final int GREATEST_SECRET = SECRETS - 1;
     private static final int GREATEST_FRIEND = 5;
@@ -27,30 +28,33 @@ public final class MayReadPencil {
     private static final int SHADE_REFUSED = 1000000000;
     private static final long FRACTION_REFUSED = 4000000000000000000L;
 
-    private final Village now = new Village();
-    private final Foresight foresight = new Foresight(now);
+    private final Village now;
+    private final Foresight foresight;
     private final Past past = new Past();
-    private final Post told = new Post();
+    private final Post spelt = new Post();
     private final int[] rowNumbers = new int[ROW_LENGTH];
     private final int[] refusals = new int[6];
     private int inRow;
     private Village picture;
 
     public MayReadPencil() {
+        Village village = new Village();
+        now = village;
+        foresight = new Foresight(village);
     }
 
     public int feed(int letter) {
-        int no = whyNot(false, letter < 0, letter > 255 || told.isFull(), false);
-        return no != 0 ? refuse(no) : told.take(letter);
+        int no = whyNot(false, letter < 0, letter > 255 || spelt.isFull(), false);
+        return no != 0 ? refuse(no) : spelt.take(letter);
     }
 
     public int post() {
-        int answer = told.readInto(foresight.asItIs());
+        int answer = spelt.readInto(foresight.asItIs());
         if (answer >= 0) {
             now.becomeLike(foresight.asLeft());
             past.forgetAll();
         }
-        told.forget();
+        spelt.forget();
         return answer;
     }
 
@@ -74,7 +78,7 @@ public final class MayReadPencil {
 
     public int letter(int place, int what) {
         int no = whyNot(!isInBag(place), false, false, what < 0 || what > 6);
-        return no != 0 ? refuse(no) : now.ofLetter(place, what);
+        return no != 0 ? refuse(no) : now.bag.ofLetter(place, what);
     }
 
     public int comes(int kind, int figure) {
@@ -137,7 +141,7 @@ public final class MayReadPencil {
             return refuse(NOBODY);
         }
         past.keep(now);
-        return now.dropLettersFrom(person);
+        return now.bag.dropFrom(person);
     }
 
     public int days(int n) {
@@ -278,7 +282,7 @@ public final class MayReadPencil {
     }
 
     public int lamp(int place) {
-        return isInBag(place) ? place / Village.UNDER_LAMP + 1 : refuse(NOBODY);
+        return isInBag(place) ? place / UNDER_LAMP + 1 : refuse(NOBODY);
     }
 
     public int bag(int what) {
@@ -288,7 +292,7 @@ public final class MayReadPencil {
         if (what == 0) {
             return foresight.asItIs().haveWholeBag();
         }
-        return what == 1 ? foresight.longestStill() : now.busiest();
+        return what == 1 ? foresight.longestStill() : now.bag.busiest();
     }
 
     public int kinds(int kind) {
@@ -351,10 +355,10 @@ public final class MayReadPencil {
             case 2: return now.rubberNow;
             case 3: return now.drawer;
             case 4: return now.rubbed;
-            case 5: return now.letters;
+            case 5: return now.bag.letters;
             case 6: return Long.bitCount(now.sheKnows);
             case 7: return Long.bitCount(now.forbidden);
-            case 8: return told.length;
+            case 8: return spelt.length;
             case 9: return inRow;
             case 10: return past.kept;
             default: return what >= 11 && what <= 16 ? refusals[what - 11] : NONE;
@@ -400,7 +404,7 @@ public final class MayReadPencil {
     }
 
     private boolean isInBag(int place) {
-        return place >= 0 && place < now.letters;
+        return place >= 0 && place < now.bag.letters;
     }
 
     private int kindsByRow(int figure) {
@@ -463,8 +467,7 @@ public final class MayReadPencil {
         static long firstFew(long secrets, int few, boolean backward) {
             long left = secrets;
             for (int i = 0; i < few && left != 0; i++) {
-                int next = backward ? greatest(left) : leastFrom(left, 0);
-                left &= ~only(next);
+                left &= backward ? ~only(greatest(left)) : left - 1;
             }
             return secrets & ~left;
         }
@@ -482,7 +485,7 @@ public final class MayReadPencil {
 
         static long partOf(long above, long below, int part) {
             if (above == 0 || below == 0) {
-                return part;
+                return part == 0 ? 0 : 1;
             }
             long shared = commonDivisor(above, below);
             long whole = part == 0 ? above : below;
@@ -523,10 +526,10 @@ public final class MayReadPencil {
                 case LOVER: return loversLead(figure);
                 case SOLDIER: return soldiersLead(day);
                 case BANK: return banksLead(figure, day);
-                case SPY: return spysLead(figure, day);
+                case SPY: return day % 2 == 0 ? banksLead(figure, day) : Math.max(5, banksLead(figure, day));
                 case WIDOW: return loversLead(figure) + 2;
-                case CHILD: return childsLead(day);
-                case DESERTER: return 9 - childsLead(day);
+                case CHILD: return soldiersLead(day) - 1;
+                case DESERTER: return 9 - (soldiersLead(day) - 1);
                 default: return 0;
             }
         }
@@ -546,15 +549,6 @@ public final class MayReadPencil {
         private static int banksLead(int figure, int day) {
             int step = figure + 2;
             return step > 0 && day % step == 0 ? 9 : 0;
-        }
-
-        private static int spysLead(int figure, int day) {
-            int lead = banksLead(figure, day);
-            return lead == 0 && day % 2 != 0 ? 5 : lead;
-        }
-
-        private static int childsLead(int day) {
-            return soldiersLead(day) - 1;
         }
 
         static int pressOf(int kind, int figure) {
@@ -610,9 +604,104 @@ public final class MayReadPencil {
         }
     }
 
+    /** The letters as they were posted, the first at place 0. */
+    private static final class Bag {
+        int letters;
+        final int[] froms = new int[MOST_LETTERS];
+        final int[] tos = new int[MOST_LETTERS];
+        final int[] leads = new int[MOST_LETTERS];
+        final int[] presses = new int[MOST_LETTERS];
+        final long[] clauses = new long[MOST_LETTERS];
+
+        void holdAs(Bag other) {
+            letters = other.letters;
+            for (int place = 0; place < letters; place++) {
+                put(place, other, place);
+            }
+        }
+
+        private void put(int place, Bag other, int from) {
+            froms[place] = other.froms[from];
+            tos[place] = other.tos[from];
+            leads[place] = other.leads[from];
+            presses[place] = other.presses[from];
+            clauses[place] = other.clauses[from];
+        }
+
+        boolean isFull() {
+            return letters >= MOST_LETTERS;
+        }
+
+        void add(int from, int to, int lead, int press, long words) {
+            if (isFull()) {
+                return;
+            }
+            froms[letters] = from;
+            tos[letters] = to;
+            leads[letters] = lead;
+            presses[letters] = press;
+            clauses[letters] = words;
+            letters++;
+        }
+
+        void dropFirst(int few) {
+            for (int place = few; place < letters; place++) {
+                put(place - few, this, place);
+            }
+            letters = Math.max(0, letters - few);
+        }
+
+        int dropFrom(int one) {
+            int left = 0;
+            for (int place = 0; place < letters; place++) {
+                if (froms[place] != one) {
+                    put(left, this, place);
+                    left++;
+                }
+            }
+            int dropped = letters - left;
+            letters = left;
+            return dropped;
+        }
+
+        int ofLetter(int place, int what) {
+            switch (what) {
+                case 0: return froms[place];
+                case 1: return tos[place];
+                case 2: return leads[place];
+                case 3: return presses[place];
+                case 4: return Long.bitCount(clauses[place]);
+                case 5: return Secrets.leastFrom(clauses[place], 0);
+                default: return Secrets.greatest(clauses[place]);
+            }
+        }
+
+        int busiest() {
+            int busiest = NONE;
+            int most = 0;
+            for (int one = 0; one < MOST_PEOPLE; one++) {
+                int many = lettersFrom(one);
+                if (many > most) {
+                    most = many;
+                    busiest = one;
+                }
+            }
+            return busiest;
+        }
+
+        private int lettersFrom(int one) {
+            int many = 0;
+            for (int place = 0; place < letters; place++) {
+                if (froms[place] == one) {
+                    many++;
+                }
+            }
+            return many;
+        }
+    }
+
     /** All of part I but letters, row, refusals and image: what is, what was, or what is thought of. */
     private static final class Village {
-        static final int UNDER_LAMP = 3;
         static final int MOST_IN_DRAWER = 999;
         static final int MOST_RUBBED = 9999;
         static final int PURPLE = 5;
@@ -623,20 +712,18 @@ public final class MayReadPencil {
         final int[] friends = new int[MOST_PEOPLE];
         final long[] known = new long[MOST_PEOPLE];
         final long[] written = new long[MOST_PEOPLE];
-
-        int letters;
-        final int[] froms = new int[MOST_LETTERS];
-        final int[] tos = new int[MOST_LETTERS];
-        final int[] leads = new int[MOST_LETTERS];
-        final int[] presses = new int[MOST_LETTERS];
-        final long[] clauses = new long[MOST_LETTERS];
-
+        final Bag bag = new Bag();
         long sheKnows;
         long forbidden;
         int rubberNow = 6;
         int drawer;
         int rubbed;
         int dayNow;
+
+        // What only a village thought of ever has: who writes in ink (bits), a damp night, purple as ink.
+        int inkWriters;
+        boolean isDamp;
+        boolean isPurpleInk;
 
         void becomeLike(Village other) {
             people = other.people;
@@ -645,24 +732,16 @@ public final class MayReadPencil {
             System.arraycopy(other.friends, 0, friends, 0, MOST_PEOPLE);
             System.arraycopy(other.known, 0, known, 0, MOST_PEOPLE);
             System.arraycopy(other.written, 0, written, 0, MOST_PEOPLE);
-            letters = other.letters;
-            for (int place = 0; place < letters; place++) {
-                putLetter(place, other, place);
-            }
+            bag.holdAs(other.bag);
             sheKnows = other.sheKnows;
             forbidden = other.forbidden;
             rubberNow = other.rubberNow;
             drawer = other.drawer;
             rubbed = other.rubbed;
             dayNow = other.dayNow;
-        }
-
-        private void putLetter(int place, Village other, int from) {
-            froms[place] = other.froms[from];
-            tos[place] = other.tos[from];
-            leads[place] = other.leads[from];
-            presses[place] = other.presses[from];
-            clauses[place] = other.clauses[from];
+            inkWriters = 0;
+            isDamp = false;
+            isPurpleInk = false;
         }
 
         int letCome(int kind, int figure) {
@@ -695,21 +774,9 @@ public final class MayReadPencil {
             }
         }
 
-        int ofLetter(int place, int what) {
-            switch (what) {
-                case 0: return froms[place];
-                case 1: return tos[place];
-                case 2: return leads[place];
-                case 3: return presses[place];
-                case 4: return Long.bitCount(clauses[place]);
-                case 5: return Secrets.leastFrom(clauses[place], 0);
-                default: return Secrets.greatest(clauses[place]);
-            }
-        }
-
         int inAll(int what) {
             switch (what) {
-                case 0: return letters;
+                case 0: return bag.letters;
                 case 1: return drawer;
                 case 2: return rubbed;
                 default: return knownTogether();
@@ -738,6 +805,10 @@ public final class MayReadPencil {
                 together += Long.bitCount(known[one]);
             }
             return together;
+        }
+
+        int knownInAll() {
+            return knownTogether() + Long.bitCount(sheKnows);
         }
 
         long knownByAny() {
@@ -781,42 +852,6 @@ public final class MayReadPencil {
             return many;
         }
 
-        int busiest() {
-            int busiest = NONE;
-            int most = 0;
-            for (int one = 0; one < people; one++) {
-                int many = lettersFrom(one);
-                if (many > most) {
-                    most = many;
-                    busiest = one;
-                }
-            }
-            return busiest;
-        }
-
-        private int lettersFrom(int one) {
-            int many = 0;
-            for (int place = 0; place < letters; place++) {
-                if (froms[place] == one) {
-                    many++;
-                }
-            }
-            return many;
-        }
-
-        int dropLettersFrom(int one) {
-            int left = 0;
-            for (int place = 0; place < letters; place++) {
-                if (froms[place] != one) {
-                    putLetter(left, this, place);
-                    left++;
-                }
-            }
-            int dropped = letters - left;
-            letters = left;
-            return dropped;
-        }
-
         private boolean hasOtherFriend(int one) {
             return friends[one] < people && friends[one] != one;
         }
@@ -845,29 +880,26 @@ public final class MayReadPencil {
 
         void passDays(int n) {
             for (int i = 0; i < n; i++) {
-                passDay(0, true, false);
+                dayNow++;
+                haveFirstLetters();
+                for (int one = 0; one < people; one++) {
+                    writeIfDue(one);
+                }
             }
         }
 
-        void passDay(int inkWriters, boolean dry, boolean purpleIsInk) {
-            dayNow++;
-            int had = Math.min(UNDER_LAMP, letters);
+        private void haveFirstLetters() {
+            int had = Math.min(UNDER_LAMP, bag.letters);
             for (int place = 0; place < had; place++) {
-                haveLetter(place, dry, purpleIsInk);
+                haveLetter(place);
             }
-            for (int place = had; place < letters; place++) {
-                putLetter(place - had, this, place);
-            }
-            letters -= had;
-            for (int one = 0; one < people; one++) {
-                writeIfDue(one, (inkWriters & 1 << one) != 0);
-            }
+            bag.dropFirst(had);
         }
 
         int haveWholeBag() {
             int spoilt = 0;
-            for (int place = 0; place < letters; place++) {
-                if (!haveLetter(place, true, false)) {
+            for (int place = 0; place < bag.letters; place++) {
+                if (!haveLetter(place)) {
                     spoilt++;
                 }
             }
@@ -875,14 +907,14 @@ public final class MayReadPencil {
         }
 
         /** Whether it goes on to whom it is to; it stays in the bag. */
-        private boolean haveLetter(int place, boolean dry, boolean purpleIsInk) {
-            int to = tos[place];
-            int lead = leads[place];
-            long words = clauses[place];
-            boolean ink = lead == 0 || purpleIsInk && lead == PURPLE;
-            if (!ink) {
+        private boolean haveLetter(int place) {
+            int to = bag.tos[place];
+            int lead = bag.leads[place];
+            long words = bag.clauses[place];
+            boolean isInk = lead == 0 || isPurpleInk && lead == PURPLE;
+            if (!isInk) {
                 sheKnows |= words;
-                if (dry && lead + presses[place] <= rubberNow) {
+                if (!isDamp && lead + bag.presses[place] <= rubberNow) {
                     words = afterRubbing(words, to);
                 }
             }
@@ -900,26 +932,23 @@ public final class MayReadPencil {
             if (gone != words) {
                 return words & ~gone;
             }
-            return Secrets.firstFew(sheKnows & ~forbidden & ~known[to], 1, false);
+            long putIn = sheKnows & ~forbidden & ~known[to];
+            return putIn & -putIn;
         }
 
-        private void writeIfDue(int one, boolean inInk) {
+        private void writeIfDue(int one) {
             int kind = kindsOf[one];
             int figure = figures[one];
             int every = Kind.everyOf(kind, figure);
-            if (every < 1 || dayNow % every != 0 || !hasOtherFriend(one) || letters >= MOST_LETTERS) {
+            if (every < 1 || dayNow % every != 0 || !hasOtherFriend(one) || bag.isFull()) {
                 return;
             }
             long words = Secrets.firstFew(known[one] & ~written[one], Kind.picksOf(kind), Kind.isBackward(kind));
             if (words == 0) {
                 return;
             }
-            froms[letters] = one;
-            tos[letters] = friends[one];
-            leads[letters] = inInk ? 0 : Kind.leadOf(kind, figure, dayNow);
-            presses[letters] = Kind.pressOf(kind, figure);
-            clauses[letters] = words;
-            letters++;
+            int lead = (inkWriters & 1 << one) != 0 ? 0 : Kind.leadOf(kind, figure, dayNow);
+            bag.add(one, friends[one], lead, Kind.pressOf(kind, figure), words);
             written[one] |= words;
         }
 
@@ -964,7 +993,8 @@ public final class MayReadPencil {
         }
 
         Village daysOn(int n) {
-            asItIs().passDays(n);
+            asItIs();
+            mind.passDays(n);
             return mind;
         }
 
@@ -985,9 +1015,9 @@ public final class MayReadPencil {
             int best = NONE;
             int most = Long.bitCount(daysOn(n).known[person]);
             for (int secret = 0; secret < SECRETS; secret++) {
-                int then = now.hasLearnt(SHE, secret) ? 0 : knownIfSheKnew(person, secret, n);
-                if (then > most) {
-                    most = then;
+                int many = now.hasLearnt(SHE, secret) ? 0 : knownIfSheKnew(person, secret, n);
+                if (many > most) {
+                    most = many;
                     best = secret;
                 }
             }
@@ -995,14 +1025,16 @@ public final class MayReadPencil {
         }
 
         private int knownIfSheKnew(int person, int secret, int n) {
-            asItIs().learn(SHE, Secrets.only(secret));
+            asItIs();
+            mind.learn(SHE, Secrets.only(secret));
             mind.passDays(n);
             return Long.bitCount(mind.known[person]);
         }
 
         int rubberThatDoes(int person, int secret, int n) {
             for (int v = 0; v <= GREATEST_RUBBER; v++) {
-                asItIs().rubberNow = v;
+                asItIs();
+                mind.rubberNow = v;
                 mind.passDays(n);
                 if (!mind.hasLearnt(person, secret)) {
                     return v;
@@ -1014,7 +1046,11 @@ public final class MayReadPencil {
         int fewestInInk(int secret, int n) {
             for (int few = 0; few <= now.people; few++) {
                 for (int bits = 0; bits < 1 << now.people; bits++) {
-                    if (Integer.bitCount(bits) == few && !isKnownToHerByInk(bits, secret, n)) {
+                    if (Integer.bitCount(bits) != few) {
+                        continue;
+                    }
+                    passInInk(bits, n);
+                    if (!mind.hasLearnt(SHE, secret)) {
                         return bits;
                     }
                 }
@@ -1022,23 +1058,22 @@ public final class MayReadPencil {
             return NONE;
         }
 
-        private boolean isKnownToHerByInk(int inkWriters, int secret, int n) {
-            passInInk(inkWriters, n);
-            return mind.hasLearnt(SHE, secret);
-        }
-
         private void passInInk(int inkWriters, int n) {
             asItIs();
-            for (int i = 0; i < n; i++) {
-                mind.passDay(inkWriters, true, false);
-            }
+            mind.inkWriters = inkWriters;
+            mind.passDays(n);
         }
 
         int bestFriend(int person, int told, int secret, int what) {
             int best = NONE;
             int fewest = DAYS_AHEAD + 1;
             for (int friend = 0; friend < now.people; friend++) {
-                int after = friend == person ? NONE : daysByFriend(person, friend, told, secret);
+                if (friend == person) {
+                    continue;
+                }
+                asItIs();
+                mind.friends[person] = friend;
+                int after = mind.daysUntil(told, secret);
                 if (after != NONE && after < fewest) {
                     fewest = after;
                     best = friend;
@@ -1047,20 +1082,14 @@ public final class MayReadPencil {
             return what == 0 || best == NONE ? best : fewest;
         }
 
-        private int daysByFriend(int person, int friend, int told, int secret) {
-            asItIs().friends[person] = friend;
-            return mind.daysUntil(told, secret);
-        }
-
         int bestSwap(int n) {
             int best = NONE;
             int most = daysOn(n).knownTogether();
             for (int one = 0; one < now.people; one++) {
                 for (int other = one + 1; other < now.people; other++) {
-                    asItIs().exchange(one, other);
-                    mind.passDays(n);
-                    if (mind.knownTogether() > most) {
-                        most = mind.knownTogether();
+                    int many = knownIfExchanged(one, other, n);
+                    if (many > most) {
+                        most = many;
                         best = 10 * one + other;
                     }
                 }
@@ -1068,19 +1097,26 @@ public final class MayReadPencil {
             return best;
         }
 
+        private int knownIfExchanged(int one, int other, int n) {
+            asItIs();
+            mind.exchange(one, other);
+            mind.passDays(n);
+            return mind.knownTogether();
+        }
+
         int purpleLoss(int n) {
             int asEver = Long.bitCount(daysOn(n).sheKnows);
             asItIs();
-            for (int i = 0; i < n; i++) {
-                mind.passDay(0, true, true);
-            }
+            mind.isPurpleInk = true;
+            mind.passDays(n);
             return asEver - Long.bitCount(mind.sheKnows);
         }
 
         int friendsByRow(int person, int told, int[] row, int length) {
             int bits = 0;
             for (int friend = 0; friend <= GREATEST_FRIEND; friend++) {
-                asItIs().friends[told] = friend;
+                asItIs();
+                mind.friends[told] = friend;
                 if (goesByRow(person, row, length)) {
                     bits |= 1 << friend;
                 }
@@ -1100,9 +1136,7 @@ public final class MayReadPencil {
 
         int settledPair(int one, int other, int n) {
             for (int choices = 0; choices < 4; choices++) {
-                int ofOne = choices / 2;
-                int ofOther = choices % 2;
-                passInInk(ofOne << one | ofOther << other, n);
+                passInInk(choices / 2 << one | choices % 2 << other, n);
                 oneHas[choices] = gain(one);
                 otherHas[choices] = gain(other);
             }
@@ -1118,20 +1152,21 @@ public final class MayReadPencil {
 
         private int gain(int one) {
             int friend = now.friends[one];
-            int told = friend < now.people ? Long.bitCount(mind.known[friend]) : 0;
-            return told - Long.bitCount(now.known[one] & mind.sheKnows);
+            int toldHim = friend < now.people ? Long.bitCount(mind.known[friend]) : 0;
+            return toldHim - Long.bitCount(now.known[one] & mind.sheKnows);
         }
 
-        /** Of all t to the n courses of the damp and the dry, equally likely, those by which one learns it. */
+        /** Of the t to the n courses of dry and damp nights, all equally likely, those by which one learns it. */
         long waysToLearn(int person, int secret, int n, int t) {
             long ways = 0;
-            for (int dampDays = 0; dampDays < 1 << n; dampDays++) {
+            for (int dampNights = 0; dampNights < 1 << n; dampNights++) {
                 asItIs();
-                for (int i = 0; i < n; i++) {
-                    mind.passDay(0, (dampDays & 1 << i) == 0, false);
+                for (int night = 0; night < n; night++) {
+                    mind.isDamp = (dampNights & 1 << night) != 0;
+                    mind.passDays(1);
                 }
                 if (mind.hasLearnt(person, secret)) {
-                    ways += Fraction.power(t - 1, n - Integer.bitCount(dampDays));
+                    ways += Fraction.power(t - 1, n - Integer.bitCount(dampNights));
                 }
             }
             return ways;
@@ -1140,18 +1175,15 @@ public final class MayReadPencil {
         int longestStill() {
             int longest = 0;
             int run = 0;
-            asItIs();
+            int before = asItIs().knownInAll();
             for (int i = 0; i < DAYS_AHEAD; i++) {
-                int before = knownToAll();
                 mind.passDays(1);
-                run = knownToAll() == before ? run + 1 : 0;
+                int after = mind.knownInAll();
+                run = after == before ? run + 1 : 0;
                 longest = Math.max(longest, run);
+                before = after;
             }
             return longest;
-        }
-
-        private int knownToAll() {
-            return mind.knownTogether() + Long.bitCount(mind.sheKnows);
         }
 
         int playGames(int n, int z, int what) {
@@ -1272,7 +1304,8 @@ public final class MayReadPencil {
                         return place;
                     }
                 } else {
-                    if (lacking == 1 ? letter != ';' : !isDigit(letter)) {
+                    boolean fits = lacking == 1 ? letter == ';' : isDigit(letter);
+                    if (!fits) {
                         return place;
                     }
                     lacking--;
@@ -1318,7 +1351,12 @@ public final class MayReadPencil {
                 case 's': return tellSecret(village, SHE, number);
                 case 'x': return tellForbidden(village, number);
                 case 'r': return tellRubber(village, number);
-                default: return tellDays(village, number);
+                default:
+                    if (!mayPass(village, number)) {
+                        return false;
+                    }
+                    village.passDays(number);
+                    return true;
             }
         }
 
@@ -1362,12 +1400,8 @@ public final class MayReadPencil {
             return true;
         }
 
-        private static boolean tellDays(Village village, int n) {
-            if (n < 1 || n > DAYS_AT_ONCE || village.dayNow + n > GREATEST_DAY) {
-                return false;
-            }
-            village.passDays(n);
-            return true;
+        private static boolean mayPass(Village village, int n) {
+            return n >= 1 && n <= DAYS_AT_ONCE && village.dayNow + n <= GREATEST_DAY;
         }
     }
 }
