@@ -1,0 +1,60 @@
+/** What the tests share: answers compared with those that are due, and posts told in letters. */
+final class Due {
+    private final String about;
+    private int wrong;
+    private int compared;
+
+    Due(String about) {
+        this.about = about;
+    }
+
+    void is(String call, long got, long want) {
+        compared++;
+        if (got != want) {
+            wrong++;
+            if (wrong <= 40) {
+                System.out.println(about + ": " + call + " answered " + got + ", due is " + want);
+            }
+        }
+    }
+
+    void isSo(String what, boolean so) {
+        is(what, so ? 1 : 0, 1);
+    }
+
+    boolean hasWrong() {
+        return wrong > 0;
+    }
+
+    void end() {
+        System.out.println(about + ": " + compared + " answers, " + wrong + " not as due");
+        if (wrong > 0) {
+            System.exit(1);
+        }
+    }
+
+    static int post(MayReadPencil x, String text) {
+        for (int i = 0; i < text.length(); i++) {
+            x.feed(text.charAt(i));
+        }
+        return x.post();
+    }
+
+    /** A new object to which each of the posts has come. */
+    static MayReadPencil with(String... posts) {
+        MayReadPencil x = new MayReadPencil();
+        for (String text : posts) {
+            if (post(x, text) < 0) {
+                throw new IllegalStateException("a test's own post has a fault: " + text);
+            }
+        }
+        return x;
+    }
+
+    static MayReadPencil withRow(MayReadPencil x, int... numbers) {
+        for (int number : numbers) {
+            x.row(number);
+        }
+        return x;
+    }
+}
