@@ -1284,7 +1284,7 @@ public final class MayReadPencil {
             }
             int place = 0;
             int statements = 0;
-            while (place < length) {
+            while (place < length && statements < MOST) {
                 if (!tell(village, place)) {
                     return FAULT_IN_STATEMENT - place;
                 }

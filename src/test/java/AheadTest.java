@@ -77,6 +77,8 @@ public final class AheadTest {
         DUE.is("when(3, -1)", x.when(3, -1), -1);
         DUE.is("when(0, -1)", x.when(0, -1), -4);
         DUE.is("when(0, 40)", x.when(0, 40), -6);
+        DUE.is("when(0, 0)", x.when(0, 0), -9);
+        DUE.is("when(0, 39)", x.when(0, 39), -9);
         // A writer writes one secret every third day: the 20th on day 60, had on day 61; the 19th on 57, had on 58.
         MayReadPencil slow = Due.with("p00;p00;");
         for (int secret = 0; secret < 21; secret++) {
@@ -100,6 +102,9 @@ public final class AheadTest {
         DUE.is("first(5) of the others", both.first(5), 3);
         both.tells(3, 5);
         DUE.is("first(5) where all know it", both.first(5), -9);
+        DUE.is("first(5) of the very first", Due.with("p10;p10;f10;k105;").first(5), 0);
+        DUE.is("first(0)", x.first(0), -9);
+        DUE.is("first(39)", x.first(39), -9);
         DUE.is("first(-1)", x.first(-1), -4);
         DUE.is("first(40)", x.first(40), -6);
         MayReadPencil slow = Due.with("p00;p00;");
@@ -113,6 +118,7 @@ public final class AheadTest {
 
     private static void promise20() {
         MayReadPencil x = Due.with(CHAIN, "x05;");
+        DUE.is("letHer(1, 0, 0)", x.letHer(1, 0, 0), -9);
         DUE.is("letHer(1, 1, 0)", x.letHer(1, 1, 0), -9);
         DUE.is("letHer(1, 1, 1)", x.letHer(1, 1, 1), -9);
         DUE.is("letHer(1, 2, 0)", x.letHer(1, 2, 0), 0);
@@ -140,6 +146,8 @@ public final class AheadTest {
         x.forbids(5);
         DUE.is("lead and press together", x.rubberFor(1, 5, 60), 5);
         DUE.is("any does until then", x.rubberFor(2, 5, 2), 0);
+        DUE.is("rubberFor(0, 0, 60)", x.rubberFor(0, 0, 60), 0);
+        DUE.is("rubberFor(0, 39, 0)", x.rubberFor(0, 39, 0), 0);
         DUE.is("and then", x.rubberFor(2, 5, 3), 5);
         DUE.is("he knows it", x.rubberFor(0, 5, 0), -9);
         DUE.is("rubberFor(-1, 5, 0)", x.rubberFor(-1, 5, 0), -1);
@@ -169,6 +177,11 @@ public final class AheadTest {
         DUE.is("and whom the ink comes to in the end", last.ink(5, 8), 6);
         last.tells(-1, 5);
         DUE.is("she knows it", last.ink(5, 0), -9);
+        DUE.is("ink(0, 30)", last.ink(0, 30), 0);
+        DUE.is("ink(39, 30)", last.ink(39, 30), 0);
+        DUE.is("all of them", Due.with("p10;p10;f10;k005;k105;").ink(5, 30), 3);
+        // The third's ink lets 3 through to the first, who then writes that before 9; the first two do as well.
+        DUE.is("one before two of lesser bits", Due.with("p01;p10;p10;f20;k009;k203;x03;").ink(9, 5), 4);
         DUE.is("ink(-1, 31)", x.ink(-1, 31), -4);
         DUE.is("ink(40, -1)", x.ink(40, -1), -4);
         DUE.is("ink(40, 30)", x.ink(40, 30), -6);
@@ -191,6 +204,14 @@ public final class AheadTest {
         friendFor(x, 0, 0, 5, 1, 0);
         friendFor(x, 0, 2, 6, -9, -9);
         friendFor(Due.with("p10;k005;"), 0, 0, 5, -9, -9);
+        friendFor(Due.with("p10;p10;k000;"), 0, 1, 0, 1, 2);
+        MayReadPencil slow = Due.with("p00;p00;");
+        for (int secret = 0; secret < 21; secret++) {
+            slow.tells(0, secret);
+        }
+        friendFor(slow, 0, 1, 19, -9, -9);
+        slow.days(1);
+        friendFor(slow, 0, 1, 19, 1, 60);
         DUE.is("friendFor(-1, 0, -1, 2)", x.friendFor(-1, 0, -1, 2), -1);
         DUE.is("friendFor(0, 3, 40, 2)", x.friendFor(0, 3, 40, 2), -1);
         DUE.is("friendFor(0, -1, 5, 0)", x.friendFor(0, -1, 5, 0), -1);
@@ -209,6 +230,8 @@ public final class AheadTest {
         DUE.is("the last two", Due.with("p10;p00;p10;k005;").swap(3), 12);
         // The figure is changed, too: a soldier of 0 writes on even days, one of 9 on every sixth.
         DUE.is("two of one kind", Due.with("p29;p20;k005;").swap(3), 1);
+        DUE.is("the other's figure, too", Due.with("p20;p29;f10;k105;").swap(3), 1);
+        DUE.is("the last two of six", Due.with("p00;p00;p00;p00;p00;p10;f50;f45;k405;").swap(2), 45);
         DUE.is("two of one kind and figure", Due.with("p29;p29;k005;").swap(3), -9);
         DUE.is("swap(-1)", x.swap(-1), -4);
         DUE.is("swap(31)", x.swap(31), -6);
@@ -292,6 +315,8 @@ public final class AheadTest {
         // Each knows one, and it is read unless he writes in ink.
         DUE.is("both in ink", Due.with("p10;p10;f10;k005;k106;").two(0, 1, 2), 11);
         DUE.is("without a friend there", Due.with("p10;p10;f05;f15;k005;").two(0, 1, 30), 0);
+        MayReadPencil none = Due.with("p03;p17;k005;k004;k109;k002;k009;k104;x05;x02;x09;x04;s04;s06;s01;f10;f01;r11;");
+        DUE.is("one would always choose otherwise", none.two(0, 1, 11), -9);
         DUE.is("two(0, 0, 0)", x.two(0, 0, 0), -1);
         DUE.is("two(-1, 0, 31)", x.two(-1, 0, 31), -1);
         DUE.is("two(0, 3, 1)", x.two(0, 3, 1), -1);
@@ -317,6 +342,7 @@ public final class AheadTest {
         damp(x, new int[] {2, 5, 3, 3}, 1, 9);
         damp(x, new int[] {2, 5, 7, 20}, 1, 400);
         damp(Due.with(CHAIN), new int[] {2, 5, 7, 20}, 1, 1);
+        damp(x, new int[] {0, 0, 7, 20}, 0, 1);
         // 0's letter is had on the 2nd night, 2's on the 4th.
         MayReadPencil twice = Due.with("p10;p10;p03;f21;k005;k205;x05;");
         damp(twice, new int[] {1, 5, 4, 2}, 3, 4);
@@ -356,9 +382,13 @@ public final class AheadTest {
             x.swap(30);
             x.shade(60);
             x.toWhom(0, 1);
-            x.two(0, 1, 30);
-            x.damp(1, 5, 7, 3, 0);
             x.lots(3, 1, 0);
+            x.two(0, 1, 30);
+            DUE.is("nobody writes in ink", x.knownIn(-1, 2), 1);
+            x.damp(1, 5, 7, 3, 0);
+            DUE.is("no night is damp", x.knownIn(1, 60), 0);
+            x.shade(60);
+            DUE.is("she reads", x.knownIn(-1, 2), 1);
             x.bag(0);
             x.bag(1);
             DUE.is("day", x.count(1), 1);

@@ -227,6 +227,9 @@ public final class PeopleAndDaysTest {
         for (int what = 0; what < want.length; what++) {
             DUE.is("letter(0, " + what + ")", x.letter(0, what), want[what]);
         }
+        MayReadPencil least = Due.with("p10;p10;k000;d01;");
+        DUE.is("least of secret 0", least.letter(0, 5), 0);
+        DUE.is("greatest of secret 0", least.letter(0, 6), 0);
         DUE.is("letter(-1, 7)", x.letter(-1, 7), -1);
         DUE.is("letter(1, 0)", x.letter(1, 0), -1);
         DUE.is("letter(0, -1)", x.letter(0, -1), -2);

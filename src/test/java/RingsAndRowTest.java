@@ -1,5 +1,6 @@
 import java.util.HashSet;
 import java.util.Set;
+import java.util.TreeSet;
 
 /** Promises 30 to 43: rings of friends, what is common, the row, games, the image, counts. */
 public final class RingsAndRowTest {
@@ -20,6 +21,7 @@ public final class RingsAndRowTest {
         promise38();
         promise39();
         promise40();
+        promise40Days();
         promise40Drawer();
         promises41And42();
         promise43();
@@ -81,6 +83,10 @@ public final class RingsAndRowTest {
         rarest(x, 5, 2, 38);
         Due.post(x, "k039;k238;");
         rarest(x, 38, 1, 36);
+        MayReadPencil six = Due.with("p00;p00;p00;p00;p00;p00;", "k000;k100;k200;k300;k400;k500;");
+        rarest(six, 0, 6, 39);
+        DUE.is("known by six", six.then(0, 3), 6);
+        share(six, 0, 1);
         DUE.is("rarest(3)", x.rarest(3), -2);
         DUE.is("rarest(-1)", x.rarest(-1), -2);
     }
@@ -154,6 +160,7 @@ public final class RingsAndRowTest {
         five.days(4);
         DUE.is("none any more", five.count(5), 0);
         DUE.is("nobody", five.bag(2), -9);
+        DUE.is("the very first", Due.with("p10;p10;k005;d01;").bag(2), 0);
     }
 
     private static void promise36() {
@@ -245,6 +252,23 @@ public final class RingsAndRowTest {
         DUE.is("lots(21, 1, 2)", x.lots(21, 1, 2), -6);
         DUE.is("lots(20, 1, 2)", x.lots(20, 1, 2), -2);
         DUE.is("lots(20, 1, -1)", x.lots(20, 1, -1), -2);
+    }
+
+    /** A soldier of figure 9 writes his least two on every 6th day; it is had on the 7th, the next on the 13th. */
+    private static void promise40Days() {
+        for (int z = 0; z < 10; z++) {
+            long[] seed = {z};
+            TreeSet<Integer> told = new TreeSet<>(tellByLot(seed, 2)[0]);
+            int few = Math.min(2, told.size());
+            int more = Math.min(4, told.size());
+            MayReadPencil x = Due.with("p29;p29;");
+            DUE.is("on 12 days she has one letter", x.lots(1, z, 0), few);
+            x.days(1);
+            DUE.is("from the next day on she has two", x.lots(1, z, 0), more);
+            x.tells(-1, told.first());
+            x.tells(-1, told.last());
+            DUE.is("what she knows is no more", x.lots(1, z, 0), more - 1 - (told.size() <= 4 ? 1 : 0));
+        }
     }
 
     /** Where she forbids all and rubs all out, each letter goes to the drawer: three secrets a letter. */
