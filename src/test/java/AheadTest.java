@@ -315,6 +315,7 @@ public final class AheadTest {
         // Each knows one, and it is read unless he writes in ink.
         DUE.is("both in ink", Due.with("p10;p10;f10;k005;k106;").two(0, 1, 2), 11);
         DUE.is("without a friend there", Due.with("p10;p10;f05;f15;k005;").two(0, 1, 30), 0);
+        // Found by a search; the second telling in PlainPencil answers the same.
         MayReadPencil none = Due.with("p03;p17;k005;k004;k109;k002;k009;k104;x05;x02;x09;x04;s04;s06;s01;f10;f01;r11;");
         DUE.is("one would always choose otherwise", none.two(0, 1, 11), -9);
         DUE.is("two(0, 0, 0)", x.two(0, 0, 0), -1);

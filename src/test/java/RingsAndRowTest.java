@@ -145,6 +145,13 @@ public final class RingsAndRowTest {
         DUE.is("he and she on day 2, another on day 3", Due.with("p10;p10;p10;k005;").bag(1), 57);
         DUE.is("on day 2 alone", Due.with("p10;p10;k005;").bag(1), 58);
         DUE.is("she alone counts, too", Due.with("p10;p10;k005;k105;d01;").bag(1), 59);
+        // A writer's letter of every 3rd day is had on the next and passed on by lovers on the two behind that.
+        MayReadPencil never = Due.with("p00;p10;p10;p10;");
+        for (int secret = 0; secret < 20; secret++) {
+            never.tells(0, secret);
+        }
+        never.days(3);
+        DUE.is("no day is still", never.bag(1), 0);
         DUE.is("a child writes on every 7th day", Due.with("p69;p10;k001;k002;k003;k004;k005;k006;k007;").bag(1), 31);
     }
 
