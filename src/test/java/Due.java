@@ -1,6 +1,14 @@
+import java.io.IOException;
+import java.io.UncheckedIOException;
+import java.nio.file.Files;
+import java.nio.file.Path;
+
 /** What the tests share: answers compared with those that are due, and posts told in letters. */
 final class Due {
+    private static final String DOCUMENT = "../shared/DOC.md";
+
     private final String about;
+    private String sentence = "";
     private int wrong;
     private int compared;
 
@@ -8,12 +16,19 @@ final class Due {
         this.about = about;
     }
 
+    /** From here on it is about a sentence of the document, which must stand there word for word. */
+    void about(String words) {
+        sentence = "";
+        isSo("the document says: " + words, Document.TEXT.contains(words));
+        sentence = "[" + words + "] ";
+    }
+
     void is(String call, long got, long want) {
         compared++;
         if (got != want) {
             wrong++;
             if (wrong <= 40) {
-                System.out.println(about + ": " + call + " answered " + got + ", due is " + want);
+                System.out.println(about + ": " + sentence + call + " answered " + got + ", due is " + want);
             }
         }
     }
@@ -56,5 +71,26 @@ final class Due {
             x.row(number);
         }
         return x;
+    }
+
+    /** One who knows the secrets from one to another (all of them told one by one). */
+    static MayReadPencil told(MayReadPencil x, int person, int from, int to) {
+        for (int secret = from; secret <= to; secret++) {
+            x.tells(person, secret);
+        }
+        return x;
+    }
+
+    /** Read only where a test is about the document's own sentences. */
+    private static final class Document {
+        static final String TEXT = read();
+
+        private static String read() {
+            try {
+                return Files.readString(Path.of(DOCUMENT));
+            } catch (IOException e) {
+                throw new UncheckedIOException(e);
+            }
+        }
     }
 }
