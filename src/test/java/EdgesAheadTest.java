@@ -174,6 +174,10 @@ public final class EdgesAheadTest {
         DUE.is("on one day", x.first(5), 1);
         x.tells(1, 5);
         DUE.is("of those who don't know it", x.first(5), 2);
+        DUE.is("the very first", Due.with("p10;p10;f10;k105;").first(5), 0);
+        MayReadPencil six = Due.with("p10;p10;p10;p10;p10;p10;f50;k405;");
+        DUE.is("the last of six", six.first(5), 5);
+        DUE.is("none of six", six.first(6), -9);
     }
 
     /** 5 is rubbed out on the 31st day, and 6 could be put in then: he knows 0 .. 4 and 39 besides. */
@@ -210,6 +214,8 @@ public final class EdgesAheadTest {
         DUE.is("all are forbidden", x.letHer(1, 2, 0), -9);
         DUE.is("all are forbidden: how many", x.letHer(1, 2, 1), -9);
         DUE.is("nothing is forbidden", Due.with("p10;p10;k005;").letHer(1, 30, 0), -9);
+        DUE.is("she knows 0 already, and he none", Due.with("p10;p10;k005;x05;s00;").letHer(1, 1, 0), -9);
+        DUE.is("she puts in 0 as it is", Due.with("p10;p10;k005;x05;s00;").letHer(1, 2, 0), -9);
     }
 
     private static void rubberDays() {
@@ -349,6 +355,11 @@ public final class EdgesAheadTest {
         DUE.is("the first and the last", Due.with("p00;p00;p00;p00;p00;p10;f50;k005;").swap(2), 5);
         // 0, a writer, could be what 1 or what 2 is.
         DUE.is("of several the first", Due.with("p00;p10;p10;k005;").swap(2), 1);
+        // A soldier of figure 0 writes on even days, one of 9 on every sixth.
+        DUE.is("the one's figure", Due.with("p29;p20;k005;").swap(3), 1);
+        DUE.is("the other's figure", Due.with("p20;p29;f10;k105;").swap(3), 1);
+        DUE.is("the other's kind", Due.with("p10;p00;f10;k105;").swap(2), 1);
+        DUE.is("of one kind and figure", Due.with("p29;p29;k005;").swap(3), -9);
         DUE.is("more by the second: 2's letter holds three",
                 Due.with("p00;p40;p10;f10;f20;k001;k002;k003;").swap(4), 2);
     }
@@ -576,6 +587,9 @@ public final class EdgesAheadTest {
             games(people, 20, 7);
         }
         MayReadPencil x = ring(2);
+        Due.post(x, "k005;x05;d02;x05;");
+        DUE.is("a letter in the drawer", x.count(3), 1);
+        DUE.is("nothing is forbidden any more: no letter more", x.lots(20, 7, 1), 0);
         DUE.is("no game", x.lots(0, 7, 0), -4);
         DUE.is("-1 games", x.lots(-1, 7, 0), -4);
         DUE.is("21 games", x.lots(21, 7, 0), -6);

@@ -32,6 +32,7 @@ public final class EdgesOfPeopleTest {
         otherFriends();
         picks();
         noRoomInTheBag();
+        recalled();
         DUE.end();
     }
 
@@ -383,6 +384,8 @@ public final class EdgesOfPeopleTest {
         byFigures(1, 6, 4, 4, 4, 5, 5, 5, 6, 6, 6, 7);
         DUE.about("WIDOW 3 less than a LOVER's");
         byFigures(5, 6, 1, 1, 1, 2, 2, 2, 3, 3, 3, 4);
+        DUE.about("PRESS: WRITER 2;");
+        byFigures(0, 6, 2, 2, 2, 2, 2, 2, 2, 2, 2, 2);
         DUE.about("SOLDIER 1; BANK 5; SPY 0;");
         byFigures(2, 6, 1, 1, 1, 1, 1, 1, 1, 1, 1, 1);
         byFigures(3, 6, 5, 5, 5, 5, 5, 5, 5, 5, 5, 5);
@@ -608,5 +611,35 @@ public final class EdgesOfPeopleTest {
         DUE.is("the last one's are recalled", x.recalls(5), 4);
         x.days(1);
         DUE.is("three are had, and all six find room", x.count(5), 24 - 4 - 3 + 6);
+    }
+
+    private static void recalled() {
+        DUE.about("His LETTERS are no more in the BAG (WRITTEN stays): how many. -1.");
+        MayReadPencil x = Due.with(FIVE_TO_ONE, "k105;k205;k305;k405;k505;d01;");
+        DUE.is("nobody's", x.recalls(-1), -1);
+        DUE.is("the seventh's", x.recalls(6), -1);
+        DUE.is("the first one's, none", x.recalls(0), 0);
+        DUE.is("all are left", x.count(5), 5);
+        DUE.is("the last", x.recalls(5), 1);
+        DUE.is("the first", x.recalls(1), 1);
+        DUE.is("those between are left", x.count(5), 3);
+        DUE.is("the first left", x.letter(0, 0), 2);
+        DUE.is("the last left", x.letter(2, 0), 4);
+        DUE.is("once more", x.recalls(1), 0);
+        DUE.is("it is written", x.person(1, 4), 1);
+        x.recalls(2);
+        x.recalls(3);
+        x.recalls(4);
+        DUE.is("an empty bag", x.count(5), 0);
+        DUE.is("of an empty bag", x.recalls(4), 0);
+        MayReadPencil several = allKnowAll();
+        several.days(8);
+        for (int one = 0; one < 3; one++) {
+            DUE.is("of " + one + ", days 5 to 8", several.recalls(one), 4);
+        }
+        for (int one = 3; one < 6; one++) {
+            DUE.is("of " + one + ", days 4 to 7", several.recalls(one), 4);
+        }
+        DUE.is("all are recalled", several.count(5), 0);
     }
 }

@@ -1,5 +1,6 @@
 import java.util.ArrayDeque;
 import java.util.Deque;
+import java.util.function.Consumer;
 
 /** The boundary cases of parts III and IV, the image, the row and the counts: a test for each sentence that names one. */
 public final class EdgesOfTheRestTest {
@@ -8,6 +9,7 @@ public final class EdgesOfTheRestTest {
 
     public static void main(String[] args) {
         newObject();
+        takenBack();
         eightAtMost();
         eachThatIsNotRefusedCounts();
         noneIsLeft();
@@ -44,6 +46,41 @@ public final class EdgesOfTheRestTest {
         for (int what = 0; what <= 10; what++) {
             DUE.is("count " + what, x.count(what), what == 2 ? 6 : 0);
         }
+    }
+
+    private static void takenBack(String told, Consumer<MayReadPencil> change) {
+        DUE.isSo("nothing is left of " + told, Sight.isSame(Sight::usedOne, x -> {
+            change.accept(x);
+            x.back();
+        }));
+        DUE.isSo("nothing is left of " + told + ", twice", Sight.isSame(Sight::usedOne, x -> {
+            change.accept(x);
+            change.accept(x);
+            x.back();
+            x.back();
+        }));
+    }
+
+    private static void takenBack() {
+        DUE.about("What friend(), tells(), forbids(), rubber(), recalls(), days() changed can be TAKEN BACK");
+        for (int least = 0; least <= 5; least += 5) {
+            int friend = least;
+            takenBack("friend " + friend, x -> x.friend(0, friend));
+        }
+        for (int one = -1; one <= 1; one++) {
+            int who = one;
+            takenBack("tells(" + who + ", 0)", x -> x.tells(who, 0));
+            takenBack("tells(" + who + ", 39)", x -> x.tells(who, 39));
+        }
+        takenBack("forbids(0)", x -> x.forbids(0));
+        takenBack("forbids(6)", x -> x.forbids(6));
+        takenBack("forbids(39)", x -> x.forbids(39));
+        takenBack("rubber(0)", x -> x.rubber(0));
+        takenBack("rubber(18)", x -> x.rubber(18));
+        takenBack("recalls(0)", x -> x.recalls(0));
+        takenBack("recalls(1)", x -> x.recalls(1));
+        takenBack("days(1)", x -> x.days(1));
+        takenBack("days(60)", x -> x.days(60));
     }
 
     private static void eightAtMost() {
@@ -284,6 +321,7 @@ public final class EdgesOfTheRestTest {
         DUE.is("all but one", x.rarest(2), 1);
         x.tells(0, 39);
         DUE.is("all", x.rarest(2), 0);
+        DUE.is("0 by one and 39 by the other", Due.with("p10;p10;k000;k139;").rarest(2), 38);
     }
 
     private static void share(MayReadPencil x, long above, long below) {
@@ -308,6 +346,7 @@ public final class EdgesOfTheRestTest {
         share(x, 31, 40);
         Due.told(x, -1, 30, 38);
         share(x, 1, 1);
+        share(Due.with("p10;p10;p10;k000;k101;k202;s01;"), 1, 3);
         MayReadPencil alone = Due.with("s05;");
         share(alone, 1, 1);
         alone.comes(1, 0);

@@ -4,6 +4,7 @@ import java.util.Random;
 public final class RandomRunsTest {
     private static final int RUNS = 400;
     private static final int CALLS = 512;
+    private static final int BY_ROW = 15;
 
     private final Due due;
     private final Random random;
@@ -144,11 +145,15 @@ public final class RandomRunsTest {
     }
 
     private void ask() {
-        switch (random.nextInt(6)) {
-            case 0, 1 -> askState();
-            case 2, 3 -> askAhead();
-            case 4 -> askByRow();
-            default -> askOthers();
+        int way = random.nextInt(6);
+        if (way == 4 && calls + BY_ROW <= CALLS) {
+            askByRow();
+        } else if (way == 5) {
+            askOthers();
+        } else if (way >= 2) {
+            askAhead();
+        } else {
+            askState();
         }
     }
 

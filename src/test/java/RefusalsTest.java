@@ -89,6 +89,7 @@ public final class RefusalsTest {
         ofAFullObject();
         ofANewObject();
         stateRefusals();
+        ofShadeAndLongs();
         nothingIsRefused();
         howManyThereWere();
         DUE.end();
@@ -165,34 +166,19 @@ public final class RefusalsTest {
         changes("`int row(int v)`", MOSTLY, (x, a) -> x.row(a[0]), number(0, 99));
     }
 
-    /** Two people, one letter in the bag, an image, four changes to take back, a row that is so, letters begun. */
-    private static MayReadPencil usedOne() {
-        MayReadPencil x = Due.with("p10;p25;f10;k005;k006;k107;x06;s09;r07;d02;");
-        x.image();
-        x.tells(0, 11);
-        x.friend(0, 1);
-        x.days(1);
-        x.rubber(8);
-        x.row(x.person(0, 3));
-        x.row(x.person(1, 3));
-        x.feed('s');
-        x.feed('3');
-        return x;
-    }
-
     private static void edgesOf(Call call) {
         for (int[] a : argumentsOf(call)) {
             int refusal = call.refusal(a);
             String told = Arrays.toString(a);
             ask(call, a, refusal, told);
             if (refusal != 0 || !call.changes) {
-                DUE.isSo("nothing changes by " + told, Sight.isSame(RefusalsTest::usedOne, x -> call.ask.of(x, a)));
+                DUE.isSo("nothing changes by " + told, Sight.isSame(Sight::usedOne, x -> call.ask.of(x, a)));
             }
         }
     }
 
     private static void ask(Call call, int[] a, int refusal, String told) {
-        MayReadPencil x = usedOne();
+        MayReadPencil x = Sight.usedOne();
         long got = call.ask.of(x, a);
         if (refusal != 0) {
             DUE.is(told, got, call.answer(refusal));
@@ -337,6 +323,19 @@ public final class RefusalsTest {
         }, (x, a) -> x.restore(), STATE);
     }
 
+    private static void ofShadeAndLongs() {
+        DUE.about("Of shade() 1000000000 less them (-1 as 1000000001), "
+                + "of longs 4000000000000000000 less them (-1 as 4000000000000000001).");
+        MayReadPencil x = Sight.usedOne();
+        DUE.is("shade, -1 days", x.shade(-1), 1000000004L);
+        DUE.is("shade, 61 days", x.shade(61), 1000000006L);
+        DUE.is("share of no part", x.share(-1), 4000000000000000002L);
+        DUE.is("damp of nobody", x.damp(2, 0, 0, 2, 0), 4000000000000000001L);
+        DUE.is("damp of no part", x.damp(0, 0, 0, 2, 2), 4000000000000000002L);
+        DUE.is("damp, -1 days", x.damp(0, 0, -1, 2, 0), 4000000000000000004L);
+        DUE.is("damp, 8 days", x.damp(0, 0, 8, 2, 0), 4000000000000000006L);
+    }
+
     /** What a call without refusals answers is none of them, though it may look like one. */
     private static void nothingIsRefused() {
         DUE.about("-9 for another what.");
@@ -357,7 +356,7 @@ public final class RefusalsTest {
 
     private static void howManyThereWere() {
         DUE.about("11 .. 16 REFUSALS -1 .. -6.");
-        MayReadPencil x = usedOne();
+        MayReadPencil x = Sight.usedOne();
         Ask[] each = {(y, a) -> y.lamp(9), (y, a) -> y.kinds(9), (y, a) -> y.rubber(-1), (y, a) -> y.shade(61),
             (y, a) -> y.share(2), (y, a) -> y.damp(0, 0, 0, 1, 0), (y, a) -> y.two(0, 0, 1)};
         for (Ask ask : each) {

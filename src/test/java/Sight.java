@@ -10,6 +10,21 @@ final class Sight {
     private Sight() {
     }
 
+    /** Two people, one letter in the bag, an image, four changes to take back, a row that is so, letters begun. */
+    static MayReadPencil usedOne() {
+        MayReadPencil x = Due.with("p10;p25;f10;k005;k006;k106;k107;x06;s09;r07;d02;");
+        x.image();
+        x.tells(0, 11);
+        x.friend(0, 1);
+        x.days(1);
+        x.rubber(8);
+        x.row(x.person(0, 3));
+        x.row(x.person(1, 3));
+        x.feed('s');
+        x.feed('3');
+        return x;
+    }
+
     /** Whether an object looks in every way like another on which one call more was made; refusals are not looked at. */
     static boolean isSame(Supplier<MayReadPencil> made, Consumer<MayReadPencil> call) {
         for (int way = 0; way < 6; way++) {
@@ -58,6 +73,10 @@ final class Sight {
         for (int what = 0; what <= 10; what++) {
             see(x.count(what));
         }
+        for (int what = 0; what <= 3; what++) {
+            see(x.then(12, what));
+        }
+        see(x.knownIn(-1, 12));
         for (int one = -1; one < x.count(0); one++) {
             for (int what = 0; what <= 8; what++) {
                 see(x.person(one, what));
