@@ -557,6 +557,7 @@ public final class EdgesOfTheRestTest {
         DUE.is("the row has none then", x.count(9), 0);
     }
 
+    /** No run of calls has 7 .. 11 answered: of six at most the seventh is not there, which is told first. */
     private static void judged() {
         DUE.about("JUDGED: how many SECRETS PEOPLE 0, 1, .. KNOW: the first that is not so (nobody there, too); -9.");
         judged(-9, new MayReadPencil());

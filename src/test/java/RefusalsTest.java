@@ -354,6 +354,7 @@ public final class RefusalsTest {
         counted(x, "calls that are not refused", 0);
     }
 
+    /** No call tells -5, so count(15) is 0 in every run of calls. */
     private static void howManyThereWere() {
         DUE.about("11 .. 16 REFUSALS -1 .. -6.");
         MayReadPencil x = Sight.usedOne();
