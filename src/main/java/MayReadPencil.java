@@ -392,7 +392,7 @@ public final class MayReadPencil {
     }
 
     private boolean isThere(int person) {
-        return person >= 0 && person < now.people;
+        return now.hasPerson(person);
     }
 
     private boolean isThereOrShe(int person) {
@@ -783,8 +783,19 @@ public final class MayReadPencil {
             }
         }
 
+        boolean hasPerson(int one) {
+            return one >= 0 && one < people;
+        }
+
+        private static boolean hasRowFor(int one) {
+            return one >= 0 && one < MOST_PEOPLE;
+        }
+
         long knownBy(int one) {
-            return one == SHE ? sheKnows : known[one];
+            if (one == SHE) {
+                return sheKnows;
+            }
+            return hasRowFor(one) ? known[one] : 0;
         }
 
         boolean hasLearnt(int one, int secret) {
@@ -794,7 +805,7 @@ public final class MayReadPencil {
         void learn(int one, long secrets) {
             if (one == SHE) {
                 sheKnows |= secrets;
-            } else {
+            } else if (hasRowFor(one)) {
                 known[one] |= secrets;
             }
         }
@@ -853,13 +864,13 @@ public final class MayReadPencil {
         }
 
         private boolean hasOtherFriend(int one) {
-            return friends[one] < people && friends[one] != one;
+            return hasPerson(friends[one]) && friends[one] != one;
         }
 
         int reachedFrom(int one) {
             int reached = 1 << one;
             int at = one;
-            for (int step = 0; step < MOST_PEOPLE && friends[at] < people; step++) {
+            for (int step = 0; step < MOST_PEOPLE && hasPerson(friends[at]); step++) {
                 at = friends[at];
                 reached |= 1 << at;
             }
@@ -915,24 +926,24 @@ public final class MayReadPencil {
             if (!isInk) {
                 sheKnows |= words;
                 if (!isDamp && lead + bag.presses[place] <= rubberNow) {
-                    words = afterRubbing(words, to);
+                    words = afterRubbing(words, knownBy(to));
                 }
             }
             if (words == 0) {
                 drawer = Math.min(MOST_IN_DRAWER, drawer + 1);
                 return false;
             }
-            known[to] |= words;
+            learn(to, words);
             return true;
         }
 
-        private long afterRubbing(long words, int to) {
+        private long afterRubbing(long words, long knownToHim) {
             long gone = words & forbidden;
             rubbed = Math.min(MOST_RUBBED, rubbed + Long.bitCount(gone));
             if (gone != words) {
                 return words & ~gone;
             }
-            long putIn = sheKnows & ~forbidden & ~known[to];
+            long putIn = sheKnows & ~forbidden & ~knownToHim;
             return putIn & -putIn;
         }
 
@@ -1013,7 +1024,7 @@ public final class MayReadPencil {
 
         int secretToLetHer(int person, int n, int what) {
             int best = NONE;
-            int most = Long.bitCount(daysOn(n).known[person]);
+            int most = Long.bitCount(daysOn(n).knownBy(person));
             for (int secret = 0; secret < SECRETS; secret++) {
                 int many = now.hasLearnt(SHE, secret) ? 0 : knownIfSheKnew(person, secret, n);
                 if (many > most) {
@@ -1028,7 +1039,7 @@ public final class MayReadPencil {
             asItIs();
             mind.learn(SHE, Secrets.only(secret));
             mind.passDays(n);
-            return Long.bitCount(mind.known[person]);
+            return Long.bitCount(mind.knownBy(person));
         }
 
         int rubberThatDoes(int person, int secret, int n) {
@@ -1126,7 +1137,7 @@ public final class MayReadPencil {
 
         private boolean goesByRow(int person, int[] row, int length) {
             for (int place = 0; place < length && place < row.length; place++) {
-                if (row[place] != Long.bitCount(mind.known[person])) {
+                if (row[place] != Long.bitCount(mind.knownBy(person))) {
                     return false;
                 }
                 mind.passDays(1);
@@ -1152,8 +1163,8 @@ public final class MayReadPencil {
 
         private int gain(int one) {
             int friend = now.friends[one];
-            int toldHim = friend < now.people ? Long.bitCount(mind.known[friend]) : 0;
-            return toldHim - Long.bitCount(now.known[one] & mind.sheKnows);
+            int toldHim = now.hasPerson(friend) ? Long.bitCount(mind.knownBy(friend)) : 0;
+            return toldHim - Long.bitCount(now.knownBy(one) & mind.sheKnows);
         }
 
         /** Of the t to the n courses of dry and damp nights, all equally likely, those by which one learns it. */
@@ -1347,7 +1358,7 @@ public final class MayReadPencil {
             switch (text[place]) {
                 case 'p': return tellPerson(village, one, digit(place + 2));
                 case 'f': return tellFriend(village, one, digit(place + 2));
-                case 'k': return one < village.people && tellSecret(village, one, twoDigits(place + 2));
+                case 'k': return village.hasPerson(one) && tellSecret(village, one, twoDigits(place + 2));
                 case 's': return tellSecret(village, SHE, number);
                 case 'x': return tellForbidden(village, number);
                 case 'r': return tellRubber(village, number);
@@ -1369,7 +1380,7 @@ public final class MayReadPencil {
         }
 
         private static boolean tellFriend(Village village, int one, int friend) {
-            if (one >= village.people || friend > GREATEST_FRIEND) {
+            if (!village.hasPerson(one) || friend > GREATEST_FRIEND) {
                 return false;
             }
             village.friends[one] = friend;

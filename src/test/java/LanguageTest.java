@@ -6,7 +6,9 @@ import java.lang.reflect.Modifier;
 import java.nio.file.Files;
 import java.nio.file.Path;
 import java.util.Arrays;
+import java.util.Map;
 import java.util.Set;
+import java.util.TreeMap;
 import java.util.TreeSet;
 import java.util.regex.Matcher;
 import java.util.regex.Pattern;
@@ -21,6 +23,7 @@ public final class LanguageTest {
             + "restore() row(int) rubber(int) rubberFor(int,int,int) shade(int) share(int)long swap(int) "
             + "damp(int,int,int,int,int)long tells(int,int) then(int,int) toWhom(int,int) two(int,int,int) "
             + "whatKind(int,int) when(int,int)";
+    private static final int DEEPEST = 8;
     private static final Set<String> LIBRARY = Set.of("Long.bitCount", "Integer.bitCount", "Math.min", "Math.max",
             "System.arraycopy");
 
@@ -98,11 +101,12 @@ public final class LanguageTest {
         while (call.find()) {
             DUE.isSo(call.group(1) + " is of the library's part", LIBRARY.contains(call.group(1)));
         }
-        methodLengths(code.split("\n"));
+        methods(code.split("\n"));
     }
 
-    private static void methodLengths(String[] lines) {
-        Pattern head = Pattern.compile("( +)(?:[\\w\\[\\]]+ )+\\w+\\([^()]*\\) \\{");
+    private static void methods(String[] lines) {
+        Map<String, String> bodies = new TreeMap<>();
+        Pattern head = Pattern.compile("( +)(?:[\\w\\[\\]]+ )+(\\w+)\\([^()]*\\) \\{");
         for (int i = 0; i < lines.length; i++) {
             Matcher matcher = head.matcher(lines[i]);
             if (matcher.matches() && !lines[i].contains("else ")) {
@@ -111,7 +115,27 @@ public final class LanguageTest {
                     end++;
                 }
                 DUE.isSo("sixty lines at most: " + lines[i].trim(), end - i < 60);
+                // Methods of one name, in several classes, are looked at as one that makes all their calls.
+                String body = String.join("\n", Arrays.copyOfRange(lines, i + 1, end));
+                bodies.merge(matcher.group(2), body, String::concat);
             }
         }
+        for (String name : bodies.keySet()) {
+            int depth = depth(name, bodies, 0);
+            DUE.isSo("calls go eight deep at most: " + name + " goes " + depth, depth <= DEEPEST);
+        }
+    }
+
+    /** How deep calls go from a method, itself and the library counted. */
+    private static int depth(String name, Map<String, String> bodies, int above) {
+        int deepest = 0;
+        Matcher call = Pattern.compile("(?<!new )\\b(\\w+)\\(").matcher(bodies.getOrDefault(name, ""));
+        while (call.find() && above <= DEEPEST) {
+            String called = call.group(1);
+            if (bodies.containsKey(called) || LIBRARY.stream().anyMatch(one -> one.endsWith("." + called))) {
+                deepest = Math.max(deepest, depth(called, bodies, above + 1));
+            }
+        }
+        return deepest + 1;
     }
 }
